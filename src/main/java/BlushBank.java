@@ -694,18 +694,6 @@ public final class BlushBank {
             faces = o.faces;
         }
 
-        /** A ledger that nothing was told of but who comes in by the lines that follow. */
-        void clear() {
-            people = 0;
-            Arrays.fill(bank, 0);
-            Arrays.fill(brazen, 0);
-            deposited = 0;
-            interest = INTEREST_AT_FIRST;
-            cover = COVER_AT_FIRST;
-            week = 0;
-            faces = 0;
-        }
-
         boolean isDeposited(int i) {
             return (deposited >> i & 1) == 1;
         }
@@ -1007,7 +995,10 @@ public final class BlushBank {
         private void begin() {
             story.incidents = 0;
             story.occasions = 0;
-            ledger.clear();
+            // No week goes in the scribe's own ledger: all else of it is as it was made.
+            ledger.people = 0;
+            ledger.interest = INTEREST_AT_FIRST;
+            ledger.cover = COVER_AT_FIRST;
             fault = 0;
             next = 0;
             hasInterest = false;

@@ -143,6 +143,12 @@ public final class PromisesTest {
         c.at("promise 5, fault");
         faulty("!", 1, 0);
         faulty("plain 5;A", 1, 8);
+        faulty("plain 5;z", 2, 8);
+        faulty("plain 5;a", 2, 8);
+        faulty("plain 5;{", 1, 8);
+        faulty("plain 5;`", 1, 8);
+        faulty("plain 5;/", 1, 8);
+        faulty("plain 5;:", 1, 8);
         faulty("plain\t5;", 1, 5);
         faulty("plain 5,", 1, 7);
         faulty("plain 100;", 1, 6);
@@ -566,6 +572,8 @@ public final class PromisesTest {
         x = Checks.told("plain 0;trip 0 0 5 5;trip 0 0 5 5;asked 0 5 11;interest 0;");
         c.due("best(0), the least by bits", x.best(0), 1);
         c.due("best(1)", x.best(1), 0);
+        x.deposit(1, true);
+        c.due("best(0), another of as many is deposited", x.best(0), 1);
         x = Checks.told("plain 0;trip 0 0 5 4;trip 0 0 1 1;trip 0 0 5 6;asked 0 9 12;interest 0;");
         c.due("best(0), fewest ahead of bits", x.best(0), 4);
         x.deposit(0, true);
@@ -589,6 +597,8 @@ public final class PromisesTest {
         c.due("save(0), what is behind is as it is", x.save(0), 2);
         x = Checks.told("plain 0;trip 0 0 5 4;trip 0 0 1 1;trip 0 0 5 6;asked 0 9 12;interest 0;");
         c.due("save(0), fewest ahead of bits", x.save(0), 4);
+        x = Checks.told("plain 0;trip 0 0 5 5;trip 0 0 5 5;asked 0 5 20;interest 0;");
+        c.due("save(0), all of them", x.save(0), 3);
         x = Checks.told("plain 0;asked 0 0 1;trip 0 1 5 5;asked 0 5 10;");
         c.due("save(0)", x.save(0), NONE);
         x.go(1);
@@ -661,6 +671,8 @@ public final class PromisesTest {
         c.due("cover(10)", Checks.told("plain 0;asked 0 9 1;").cover(10), NONE);
         x.go(5);
         c.due("cover(20), from now on", x.cover(20), 0);
+        c.due("cover(1) of 99", Checks.told("bride 0;asked 0 0 30;asked 0 0 30;asked 0 0 30;asked 0 0 9;").cover(1), 99);
+        c.due("cover(1) of 100", Checks.told("bride 0;asked 0 0 30;asked 0 0 30;asked 0 0 30;asked 0 0 10;").cover(1), NONE);
     }
 
     private static void p26() {
@@ -679,6 +691,9 @@ public final class PromisesTest {
         c.due("rate(3)", x.rate(3), 3);
         x.law(1, 12);
         c.due("rate(3), cover has it not", x.rate(3), NONE);
+        x = Checks.told("plain 0;trip 0 0 5 5;asked 0 1 19;cover 50;");
+        x.deposit(0, true);
+        c.due("rate(2) of 9", x.rate(2), 9);
         // 1 at the bank grows by nothing at all.
         x = Checks.told("plain 0;trip 0 0 0 1;asked 0 9 2;");
         x.deposit(0, true);
@@ -745,6 +760,7 @@ public final class PromisesTest {
         c.due("whisper(-1)", x.whisper(-1), BAD);
         x = Checks.told("plain 0;plain 0;plain 0;trip 0 0 1 1;trip 1 0 1 1;trip 2 0 1 1;"
             + "asked 0 0 5;asked 1 0 5;asked 1 0 5;asked 2 0 5;asked 2 0 5;");
+        c.due("whisper(0), the first of all", Checks.told("plain 0;trip 0 0 1 1;asked 0 0 9;").whisper(0), 0);
         c.due("whisper(0), of several the first", x.whisper(0), 1);
         c.due("whisper(1)", x.whisper(1), 3);
         c.due("trip(1, 3)", x.trip(1, 3), 1);
@@ -829,6 +845,9 @@ public final class PromisesTest {
         c.due("fits(3)", x.fits(3), 5);
         x.go(20);
         c.due("fits(1), behind week 9", x.fits(1), 2);
+        x = Checks.told("plain 0;asked 0 9 1;");
+        x.note(0, 9, false);
+        c.due("fits(0), week 9 too", x.fits(0), 0);
         c.due("fits(0) of nobody", new BlushBank().fits(0), 1);
     }
 
@@ -841,6 +860,7 @@ public final class PromisesTest {
         c.due("drift(1, 21, 0)", x.drift(1, 21, 0), BAD);
         c.due("drift(1, 1, 2)", x.drift(1, 1, 2), BAD);
         c.due("drift(1, 1, -1)", x.drift(1, 1, -1), BAD);
+        c.due("drift(0, 20, 0)", x.drift(0, 20, 0), 1);
         // 1103527590: bits 16838, of three the one 2, by 8: 8 - 4, fades to 3; 18 and 27.
         c.due("drift(1, 1, 0)", x.drift(1, 1, 0), 0);
         c.due("drift(1, 1, 1)", x.drift(1, 1, 1), 48);
@@ -921,6 +941,21 @@ public final class PromisesTest {
         c.due("trip(2, 3)", x.trip(2, 3), 1);
         c.due("trip(2, 4)", x.trip(2, 4), 0);
         c.due("count(3)", x.count(3), 1);
+        x = Checks.told("plain 0;plain 0;asked 1 5 1;");
+        x.note(1, 5, true);
+        x.keep(0);
+        x.forget(0);
+        x.note(0, 6, true);
+        c.due("fits(0)", x.fits(0), 0);
+        x.back(0);
+        c.due("fits(0), what was noted", x.fits(0), 1);
+        x.forget(0);
+        x.note(1, 5, false);
+        x.keep(0);
+        x.forget(0);
+        x.note(1, 5, true);
+        x.back(0);
+        c.due("fits(0), what was noted", x.fits(0), 0);
     }
 
     private static void p36() {
@@ -1027,6 +1062,9 @@ public final class PromisesTest {
         c.due("read(0, 0, 0, 20), too much", x.read(0, 0, 0, 20), -21);
         c.due("read(0, 1, 0, 20), another lane", x.read(0, 1, 0, 20), 0);
         c.due("read(3, 0, 0, 20), nothing", x.read(3, 0, 0, 20), 0);
+        x.law(1, 3);
+        c.due("read(0, 0, 0, 1), all of cover", x.read(0, 0, 0, 1), 1);
+        c.due("rule(4)", x.rule(4), 0);
     }
 
     private static void p39() {
