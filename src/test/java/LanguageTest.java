@@ -1,3 +1,5 @@
+import com.sun.management.ThreadMXBean;
+import java.lang.management.ManagementFactory;
 import java.lang.reflect.Field;
 import java.lang.reflect.Member;
 import java.lang.reflect.Method;
@@ -30,6 +32,7 @@ public final class LanguageTest {
         nested();
         words(source);
         lengths(source);
+        makesNothing();
         c.finish();
     }
 
@@ -102,5 +105,68 @@ public final class LanguageTest {
                 c.holds("rule 11: the method at line " + (i + 1) + " has " + end + " lines", end > 0 && end <= 60);
             }
         }
+    }
+
+    /** All calls of a run live in one room, so what is asked ten thousand times may make nothing. */
+    private static void makesNothing() {
+        ThreadMXBean room = (ThreadMXBean) ManagementFactory.getThreadMXBean();
+        byte[] text = "plain 4;bride 2;trip 0 0 9 6;trip 1 8 3 3;asked 0 4 15;cover 14;".getBytes();
+        BlushBank bank = new BlushBank();
+        // What the machine itself makes when it meets a line for the first time is not the class's.
+        everyCall(new BlushBank(), text);
+        long before = room.getCurrentThreadAllocatedBytes();
+        everyCall(bank, text);
+        long after = room.getCurrentThreadAllocatedBytes();
+        c.holds("rule 12: calls made " + (after - before) + " bytes", after == before);
+    }
+
+    private static void everyCall(BlushBank x, byte[] text) {
+        for (int i = 0; i < text.length; i++) {
+            x.feed(text[i]);
+        }
+        x.end(text.length);
+        x.text();
+        x.fault();
+        x.deposit(0, true);
+        x.give(0, 1, 1);
+        x.rumour(1);
+        x.law(0, 3);
+        x.teach(0, 3);
+        x.note(0, 4, true);
+        x.keep(0);
+        x.go(2);
+        x.draw(0, 1);
+        x.sheet(0, 1, 40);
+        x.lay(0, 1, 2);
+        x.read(0, 1, 0, 20);
+        x.torn();
+        for (int what = 0; what < 7; what++) {
+            everyQuestion(x, what);
+        }
+        x.forget(0);
+        x.back(0);
+    }
+
+    private static void everyQuestion(BlushBank x, int what) {
+        x.rule(what);
+        x.one(0, what);
+        x.trip(0, what);
+        x.asked(0, what);
+        x.ahead(0, 20, what);
+        x.first(what);
+        x.modest();
+        x.plan(what);
+        x.best(what);
+        x.save(what);
+        x.run(what);
+        x.holds();
+        x.cover(20);
+        x.rate(20);
+        x.gift(9, what);
+        x.told(0, what);
+        x.whisper(what);
+        x.fits(what);
+        x.drift(7, 20, what);
+        x.count(what);
     }
 }

@@ -1,12 +1,9 @@
-import java.util.ArrayList;
-import java.util.List;
 import java.util.Random;
 
 /** Runs of random calls, up to 512 on one object, each answered by the class and by the model. */
 public final class ModelTest {
     private static final int RUNS = 1500;
     private static final int CALLS = 512;
-    private static final String[] WORDS = {"plain", "bishop", "bride", "widow", "trip", "asked", "interest", "cover"};
     private static final Checks c = new Checks();
 
     private final Random random;
@@ -65,7 +62,7 @@ public final class ModelTest {
     }
 
     private void tellText() {
-        String text = any(6) == 0 ? faultyText() : goodText();
+        String text = any(6) == 0 ? Texts.faulty(random) : Texts.good(random);
         for (int i = 0; i < text.length() && left > 1; i++) {
             int b = text.charAt(i);
             due("feed(" + b + ")", x.feed(b), m.feed(b));
@@ -73,46 +70,6 @@ public final class ModelTest {
         due("text() of \"" + text + "\"", x.text(), m.text());
         due("fault() of \"" + text + "\"", x.fault(), m.fault);
         state();
-    }
-
-    private String goodText() {
-        String text;
-        do {
-            int people = 1 + any(4);
-            List<String> lines = new ArrayList<>();
-            for (int p = 0; p < people; p++) {
-                lines.add(WORDS[any(4)] + " " + (any(3) == 0 ? any(100) : any(12)) + ";");
-            }
-            for (int i = any(7); i > 0; i--) {
-                lines.add("trip " + any(people) + " " + any(10) + " " + any(10) + " " + any(10) + ";");
-            }
-            for (int k = any(7); k > 0; k--) {
-                lines.add("asked " + any(people) + " " + any(10) + " " + any(31) + ";");
-            }
-            if (coin()) {
-                lines.add("cover " + (coin() ? any(100) : any(30)) + ";");
-            }
-            if (coin()) {
-                lines.add("interest" + any(10) + ";");
-            }
-            text = String.join(any(3) == 0 ? " " : "", lines);
-        } while (text.length() > 160);
-        return text;
-    }
-
-    private String faultyText() {
-        StringBuilder text = new StringBuilder(goodText());
-        String signs = " ;;09 5az!A\t";
-        for (int i = 1 + any(3); i > 0; i--) {
-            int at = any(text.length());
-            switch (any(4)) {
-                case 0 -> text.deleteCharAt(at);
-                case 1 -> text.setCharAt(at, signs.charAt(any(signs.length())));
-                case 2 -> text.insert(at, signs.charAt(any(signs.length())));
-                default -> text.insert(text.indexOf(";", at) + 1, WORDS[any(8)] + " " + any(12) + ";");
-            }
-        }
-        return text.length() > 160 ? text.substring(0, 160) : text.toString();
     }
 
     /** All that can be seen, so that what should not have changed is found out. These calls are not counted. */
